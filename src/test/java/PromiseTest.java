@@ -31,6 +31,7 @@ public final class PromiseTest {
 
     private static void days() {
         promise12();
+        lastDay();
         promise13();
     }
 
@@ -255,11 +256,42 @@ public final class PromiseTest {
         Due.due("day", x.now(0), 41);
     }
 
+    /** No 512 calls reach the last day; a longer run shows that it is looked at all the same. */
+    private static void lastDay() {
+        DustLand x = Due.room("fall 0");
+        for (int i = 0; i < 2499; i++) x.go(40);
+        Due.due("go(40) too far", x.go(40), Due.STATE);
+        Due.due("sneezes(20)", x.sneezes(20), 0);
+        Due.due("sneezes(20) too far", x.sneezes(20), Due.STATE);
+        Due.due("go(0)", x.go(0), Due.BEYOND);
+        Due.due("go(41)", x.go(41), Due.BEYOND);
+        Due.due("sneezes(21)", x.sneezes(21), Due.BEYOND);
+        Due.due("day", x.now(0), 99980);
+        int z = x.count(6);
+        Due.due("sneezes(20) too far", x.sneezes(20), Due.STATE);
+        Due.due("no draw", x.count(6), z);
+        Due.due("sneezes(18)", x.sneezes(18), 0);
+        Due.due("sneezes(2) too far", x.sneezes(2), Due.STATE);
+        Due.due("go(2) too far", x.go(2), Due.STATE);
+        x.image();
+        Due.due("go(1)", x.go(1), 0);
+        x.undo();
+        Due.due("sneezes(1)", x.sneezes(1), 0);
+        Due.due("go(1) too far", x.go(1), Due.STATE);
+        Due.due("sneezes(1) too far", x.sneezes(1), Due.STATE);
+        Due.due("day", x.now(0), 99999);
+        Due.due("status(4)", x.status(4), 7);
+    }
+
     private static void promise13() {
         DustLand x = Due.room("cat at 1 goods 7 marks 4;maid goods 9;lord at 11 goods 9 marks 1;dust 3 50;dust 4 2");
         int[] due = {0, 52, 25, 1 << 1 | 1 << 11, 2, 1};
         for (int what = 0; what < due.length; what++) Due.due("now " + what, x.now(what), due[what]);
         Due.all("now beyond", Due.BEYOND, x.now(-1), x.now(6));
+        DustLand full = Due.room("lord goods 9 marks 1;lord;lord at 2 marks 1;lord;lord;lord;lord;lord at 11 marks 1");
+        Due.due("a day of eight", full.ahead(0, 1) + full.goods(7, 1), 3);
+        Due.due("now(4) of eight", full.now(4), 255 & ~(1 | 1 << 2 | 1 << 7));
+        Due.due("now(5): the first", full.now(5), 0);
         DustLand y = new DustLand();
         int[] empty = {0, 0, 0, 0, 0, -1};
         for (int what = 0; what < empty.length; what++) Due.due("now " + what + " without tenants", y.now(what), empty[what]);
@@ -280,6 +312,10 @@ public final class PromiseTest {
         Due.due("2 got 10 and lost 5, all at once", x.surface(2, 0), 55);
         Due.due("5 got 5", x.surface(5, 0), 5);
         Due.due("of 9 none goes", x.surface(0, 0), 9);
+        DustLand first = Due.room("fall 0;draught 1;dust 0 100;dust 11 50");
+        first.go(1);
+        Due.due("from and to surface 0", first.surface(0, 0), 95);
+        Due.due("10 of 0", first.surface(1, 0), 10);
         DustLand y = Due.room("fall 0;draught -2;dust 1 100");
         y.go(1);
         Due.due("back round the room", y.surface(11, 0), 10);
@@ -356,6 +392,7 @@ public final class PromiseTest {
         Due.due("holder(0, 4)", x.holder(0, 4), 0);
         Due.due("holder(0, 60)", x.holder(0, 60), 0);
         Due.due("holder(3, 60)", x.holder(3, 60), -1);
+        Due.due("holder(0, 0) behind another question", x.holder(0, 0), 1);
         Due.all("ahead beyond", Due.BEYOND, x.ahead(-1, 0), x.ahead(12, 0), x.ahead(0, -1), x.ahead(0, 61));
         Due.all("goods beyond", Due.BEYOND, x.goods(-1, 0), x.goods(2, 0), x.goods(0, -1), x.goods(0, 61));
         Due.all("holder beyond", Due.BEYOND, x.holder(-1, 0), x.holder(12, 0), x.holder(0, -1), x.holder(0, 61));
@@ -419,6 +456,12 @@ public final class PromiseTest {
         String before = Due.look(x);
         Due.due("seat(0, 1): the least of two", x.seat(0, 1), 9);
         Due.due("seat(0, 0): all alike", x.seat(0, 0), 0);
+        x.dust(11, 420);
+        Due.due("seat(0, 1): the last", x.seat(0, 1), 11);
+        x.dust(11, 0);
+        x.dust(0, 420);
+        Due.due("seat(0, 1): the first", x.seat(0, 1), 0);
+        x.dust(0, 0);
         x.charter(0, 10, 50);
         Due.due("seat(0, 40): 10 is held anyway", x.seat(0, 40), 9);
         x.charter(0, 10, 0);
@@ -489,6 +532,13 @@ public final class PromiseTest {
         Due.due("swapFor(3, 1): 6 alone", x.swapFor(3, 1), 1);
         Due.all("swapFor beyond", Due.BEYOND, x.swapFor(-1, 0), x.swapFor(4, 0), x.swapFor(0, -1), x.swapFor(0, 41));
         Due.same("swapFor", Due.look(x), before);
+        DustLand two = Due.room("fall 0;cat;cat;tenant at 4;dust 4 100");
+        Due.due("swapFor of the first of three", two.swapFor(0, 1), 1);
+        two.change(0, 0, 1);
+        Due.due("swapFor: the last", two.swapFor(0, 1), 2);
+        DustLand empty = Due.room("fall 0;tenant at 1;tenant at 2;dust 0 500");
+        Due.due("swapFor: only with those who are there", empty.swapFor(0, 1), 1);
+        Due.due("swapFor of two", Due.room("cat;cat").swapFor(1, 1), 0);
         DustLand y = Due.room("cat");
         Due.due("swapFor alone", y.swapFor(0, 1), Due.NONE);
         Due.all("swapFor alone, beyond", Due.BEYOND, y.swapFor(1, 1), y.swapFor(0, 41), new DustLand().swapFor(0, 0));
@@ -684,6 +734,12 @@ public final class PromiseTest {
         Due.due("dust by the last item", x.surface(3, 0), 9999);
         Due.due("fall", x.law(0, 0), 99);
         Due.due("draught", x.law(1, 0), -3);
+        x.seat(0, 40);
+        x.dust(3, 8);
+        Due.due("behind a question", Due.text(x, "fall 5"), 1);
+        Due.due("fall", x.law(0, 5), 5);
+        Due.due("all else is as it was", x.surface(3, 0), 8);
+        Due.due("day", x.now(0), 0);
         String[] kinds = {"tenant", "lord", "maid", "widow", "bishop", "cat", "heir"};
         for (int k = 0; k < kinds.length; k++) Due.due(kinds[k], Due.room(kinds[k]).of(0, 0), k);
         DustLand y = Due.room("cat;cat;cat;cat;cat;cat;cat;cat");
@@ -743,9 +799,27 @@ public final class PromiseTest {
         fault("draught -", 9);
         fault("draught --1", 9);
         fault("draught 4", 8);
+        fault("draught ?1", 8);
         fault("draught -4", 9);
         fault("draught 1 1", 10);
         fault("7", 0);
+        fault("catz", 0);
+        fault("acat", 0);
+        fault("ca", 0);
+        fault("z", 0);
+        fault("cat at;cat", 6);
+        fault("cat goods;cat", 9);
+        fault("cat marks;cat", 9);
+        fault("dust;cat", 4);
+        fault("dust 0;cat", 6);
+        fault("fall;cat", 4);
+        fault("draught;cat", 7);
+        fault("draught-;cat", 8);
+        fault(";".repeat(120), 0);
+        fault("7".repeat(120), 0);
+        fault("-7".repeat(60), 0);
+        fault(" ".repeat(119) + "?", 119);
+        fault(" ".repeat(120), 120);
         fault("-", 0);
         fault("fall 3!", 6);
         fault("fall 3\u00e6", 6);
