@@ -17,20 +17,20 @@ import java.util.stream.Collectors;
 
 /** The face is the document's and no more; the source keeps to what of LANGUAGE.md can be seen from outside. */
 public final class FaceTest {
-    private static final String[] FACE = {
-        "int dust 2", "int surface 2", "int law 2", "int tenant 2", "int of 2", "int change 3", "int mark 2", "int charter 3",
-        "int swap 2", "int sneeze 2", "int go 1", "int now 1", "int ahead 2", "int goods 2", "int holder 2", "int when 2",
-        "int clash 0", "int rich 2", "int seat 2", "int kindFor 2", "int draught 2", "int fallFor 2", "int swapFor 2",
-        "int brooms 2", "int without 1", "int fits 2", "int kinds 2", "int sneezes 1", "long odds 2", "int seed 1", "int feed 2",
-        "int wipe 0", "int text 0", "int hold 2", "int as 2", "int sheet 3", "int write 3", "int copy 5", "int load 1",
-        "int judge 1", "int image 0", "int undo 0", "int tear 0", "int count 1", "int status 1"};
+    /** A method as the document writes it out under 'The public face'. */
+    private static final Pattern METHOD = Pattern.compile("    public (int|long) (\\w+)\\(([^)]*)\\);");
 
     private static final String[] FORBIDDEN = {"\\bthrow\\b", "\\bthrows\\b", "\\btry\\b", "\\bcatch\\b", "\\bfinally\\b",
         "\\bsynchronized\\b", "\\bassert\\b", "->", "::", "\\bpackage\\b", "\\bimport\\b", "Exact\\(", "\\bnull\\b", "\"\\s*\\+", "\\+\\s*\""};
 
     private static final List<String> faults = new ArrayList<>();
+    /** Each method of the face as 'int dust 2', and by its name alone. */
+    private static final Set<String> due = new TreeSet<>();
+    private static final Set<String> names = new TreeSet<>();
 
     public static void main(String[] args) throws IOException {
+        String shared = System.getenv("SHARED") == null ? "../shared" : System.getenv("SHARED");
+        readFace(Files.readString(Path.of(shared, "DOC.md")));
         face();
         classesInside();
         source(Files.readString(Path.of(args.length > 0 ? args[0] : "src/main/java/DustLand.java")));
@@ -43,10 +43,22 @@ public final class FaceTest {
         if (!holds) faults.add(fault);
     }
 
+    private static void readFace(String document) {
+        Matcher method = METHOD.matcher(document);
+        while (method.find()) {
+            int parameters = method.group(3).isEmpty() ? 0 : method.group(3).split(",").length;
+            due.add(method.group(1) + " " + method.group(2) + " " + parameters);
+            names.add(method.group(2));
+        }
+        // All promises but that of a new object are of a method.
+        Matcher promise = Pattern.compile("(?m)^## Promise \\d+: (\\w+)$").matcher(document);
+        while (promise.find()) check(names.contains(promise.group(1)), "the face has no " + promise.group(1));
+        check(due.size() == 45, "the document's face was read as " + due.size() + " methods");
+    }
+
     private static void face() {
         int modifiers = DustLand.class.getModifiers();
         check(Modifier.isPublic(modifiers) && Modifier.isFinal(modifiers), "the class is not public and final");
-        Set<String> due = new TreeSet<>(Arrays.asList(FACE));
         Set<String> open = new TreeSet<>();
         Set<String> hidden = new TreeSet<>();
         for (Method m : DustLand.class.getDeclaredMethods()) {
@@ -60,7 +72,7 @@ public final class FaceTest {
             open.add(m.getReturnType() + " " + m.getName() + " " + m.getParameterCount());
         }
         check(open.equals(due), "the face is " + open + ", due is " + due);
-        hidden.retainAll(Arrays.stream(FACE).map(f -> f.split(" ")[1]).collect(Collectors.toSet()));
+        hidden.retainAll(names);
         check(hidden.isEmpty(), "private methods bear names of the face: " + hidden);
         Constructor<?>[] made = DustLand.class.getDeclaredConstructors();
         check(made.length == 1 && made[0].getParameterCount() == 0 && made[0].getModifiers() == Modifier.PUBLIC, "the constructor");
@@ -86,9 +98,9 @@ public final class FaceTest {
             check(Modifier.isStatic(modifiers), type + " is not static");
             check(!Modifier.isPublic(modifiers) && !Modifier.isProtected(modifiers), type + " is open");
             fields(type);
-            Set<String> names = Arrays.stream(type.getDeclaredMethods()).map(Member::getName).collect(Collectors.toSet());
-            names.retainAll(Arrays.stream(FACE).map(f -> f.split(" ")[1]).collect(Collectors.toSet()));
-            check(names.isEmpty(), type + " has methods with names of the face: " + names);
+            Set<String> taken = Arrays.stream(type.getDeclaredMethods()).map(Member::getName).collect(Collectors.toSet());
+            taken.retainAll(names);
+            check(taken.isEmpty(), type + " has methods with names of the face: " + taken);
         }
     }
 
